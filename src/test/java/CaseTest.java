@@ -129,7 +129,7 @@ public final class CaseTest {
         for (int i = 0; i < 5; i++) {
             moot.person(0, i - 1, -1);
         }
-        Due.tell(moot, 0, 0, "hurt hand 60; when kin do half; when truce do double;");
+        Due.tell(moot, 0, 0, "hurt hand 60; when kin = 1 do half; when truce = 1 do double;");
         moot.hurt(0, 3, HAND, 0, 0, false);
         moot.hurt(4, 0, HAND, 0, 0, false);
         Due.is("degree 3", moot.sum(0, 0), 30);

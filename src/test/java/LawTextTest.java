@@ -47,6 +47,9 @@ public final class LawTextTest {
         Due.fault("hurt a 0000001;", 1, 7);
         Due.fault("when 5do half;", 1, 5);
         Due.fault("when 1234567 do half;", 1, 5);
+        Due.fault("5a", 1, 0);
+        Due.fault("abcdefghi", 1, 0);
+        Due.fault("1234567", 1, 0);
         Due.fault("hurthand 5;", 2, 0);
         Due.fault("whenrank do half;", 2, 0);
     }

@@ -109,6 +109,7 @@ public final class OathTest {
         Due.is("of(0, 4)", moot.of(0, 4), 10);
         Due.is("sum stays none", moot.sum(0, 10), -1);
         Due.is("judge", moot.judge(0), -1);
+        Due.is("of(0, 5)", moot.of(0, 5), -1);
         Due.is("pays", moot.pays(0, 2, 10), -1);
     }
 }

@@ -50,8 +50,10 @@ public final class PartsTest {
             Due.is("pays of no case", moot.pays(person == 7 ? 2 : person, 0, 10), -1);
             Due.is("has of no case", moot.has(person == 7 ? 2 : person, 0, 10), -1);
         }
-        Due.is("pays without a sum", moot.pays(1, 0, 10), -1);
-        Due.is("has without a sum", moot.has(1, 6, 10), -1);
+        for (int person = 0; person < 7; person++) {
+            Due.is("pays without a sum", moot.pays(1, person, 10), -1);
+            Due.is("has without a sum", moot.has(1, person, 10), -1);
+        }
         moot.rank(6, 1, 0);
         Due.is("pays as known on 9", moot.pays(0, 0, 9), 100);
         Due.is("pays as known on 10", moot.pays(0, 0, 10), 200);
