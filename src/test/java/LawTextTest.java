@@ -31,7 +31,8 @@ public final class LawTextTest {
         Due.good("hurt\nhand\n60\n;");
         Due.good("hurt hand60;");
         Due.good("when(rank>1)do half;");
-        Due.good("when not(1)and 2<3or(4)do half;".replace("3or", "3 or"));
+        Due.good("when not(1)and 2<3 or(4)do half;");
+        Due.fault("when 2<3or(4)do half;", 1, 7);
         Due.good("hurt a 000007;");
         Due.fault("hurt a 5;\t", 1, 9);
         Due.fault("hurt a 5;\r\n", 1, 9);
@@ -163,7 +164,7 @@ public final class LawTextTest {
         Due.fault("when " + SIX_NOTS + "A do half;", 1, 5 + SIX_NOTS.length());
         Due.good("when not(not(not 1))do half;");
         Due.fault("when not(not(not(1)))do half;", 2, 17);
-        Due.good("when (((((1))))) and (((((not_))))) do half;".replace("not_", "2"));
+        Due.good("when (((((1))))) and (((((2))))) do half;");
         Due.good("when (((((1) or (2))))) or not not not not not 3 do half;");
     }
 
