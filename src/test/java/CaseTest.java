@@ -34,8 +34,7 @@ public final class CaseTest {
         for (long name : noNames) {
             Due.is("name " + name, moot.hurt(0, 1, name, 0, 0, false), -1);
         }
-        for (String word : ("hurt when do double half add less share need rank terms days or and not"
-                + " other place night kin truce sum").split(" ")) {
+        for (String word : Due.NO_NAMES) {
             Due.is("name " + word, moot.hurt(0, 1, Due.name(word), 0, 0, false), -1);
         }
         Due.is("about(4)", moot.about(4), 0);

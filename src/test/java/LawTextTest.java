@@ -70,8 +70,7 @@ public final class LawTextTest {
         Due.fault("hurt a 5;;", 2, 9);
         Due.fault("hurt a 1; hurt b 2; hurt a 3;", 3, 25);
         Due.fault("hurt a 1; hurt a", 3, 15);
-        for (String word : ("hurt when do double half add less share need rank terms days or and not"
-                + " other place night kin truce sum").split(" ")) {
+        for (String word : Due.NO_NAMES) {
             Due.fault("hurt " + word + " 5;", 2, 5);
         }
         Due.good("hurt ranks 5; hurt su 6; hurt dos 7;");

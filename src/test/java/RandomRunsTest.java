@@ -54,10 +54,7 @@ public final class RandomRunsTest {
         text = text.length() > 700 ? text.substring(0, 700) : text;
         int calls = 0;
         for (int at = 0; at < text.length(); at += 20) {
-            int[] n = new int[5];
-            for (int i = 0; i < 20; i++) {
-                n[i / 4] = n[i / 4] << 8 | (at + i < text.length() ? text.charAt(at + i) : ' ');
-            }
+            int[] n = Due.twentyBytes(text, at);
             alike("feed", moot.feed(n[0], n[1], n[2], n[3], n[4]), model.feed(n));
             calls++;
         }

@@ -1,5 +1,9 @@
 /** Counts the answers that are not as due, and has the ways of feeding a moot that all tests need. */
 final class Due {
+    /** The words that are no NAMES. */
+    static final String[] NO_NAMES = ("hurt when do double half add less share need rank terms days or and not"
+        + " other place night kin truce sum").split(" ");
+
     private static int asked;
     private static int wrong;
 
@@ -34,14 +38,20 @@ final class Due {
         return name;
     }
 
+    /** Twenty bytes of a text as feed() takes them, with blanks behind its end. */
+    static int[] twentyBytes(String text, int from) {
+        int[] n = new int[5];
+        for (int i = 0; i < 20; i++) {
+            int c = from + i < text.length() ? text.charAt(from + i) : ' ';
+            n[i / 4] = n[i / 4] << 8 | c;
+        }
+        return n;
+    }
+
     /** Puts a text on an empty tape, byte by byte as its characters are. */
     static void write(BloodPrice moot, String text) {
         for (int at = 0; at < text.length(); at += 20) {
-            int[] n = new int[5];
-            for (int i = 0; i < 20; i++) {
-                int c = at + i < text.length() ? text.charAt(at + i) : ' ';
-                n[i / 4] = n[i / 4] << 8 | c;
-            }
+            int[] n = twentyBytes(text, at);
             moot.feed(n[0], n[1], n[2], n[3], n[4]);
         }
         is("end(" + text.length() + ")", moot.end(text.length()), text.length());
