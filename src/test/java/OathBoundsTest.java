@@ -9,6 +9,7 @@ public final class OathBoundsTest {
         noneOfDegreeOne();
         noneDead();
         noneWhoIsNobody();
+        everyBitIsAPerson();
         clearedOnce();
         noneStaysNone();
         judgedOrWithoutALaw();
@@ -105,6 +106,20 @@ public final class OathBoundsTest {
         }
         Due.is("not cleared", moot.of(0, 4), -1);
         Due.is("bit 19", moot.oath(0, 1 << 19), 1);
+    }
+
+    private static void everyBitIsAPerson() {
+        BloodPrice moot = moot("need 1 rank 1;");
+        for (int helper = 2; helper < 20; helper++) {
+            Due.is("hurt", moot.hurt(0, 1, HAND, 0, 0, false), helper - 1);
+            Due.is("rank", moot.rank(helper, 1, 0), helper - 1);
+            Due.is("with " + helper, moot.oath(helper - 1, 1 << helper), 1);
+        }
+        moot = moot("");
+        moot.hurt(3, 1, HAND, 0, 0, false);
+        moot.hurt(3, 5, HAND, 0, 0, false);
+        Due.is("with 0", moot.oath(1, 1), 1);
+        Due.is("with 0 and 1", moot.oath(2, 3), 1);
     }
 
     private static void clearedOnce() {

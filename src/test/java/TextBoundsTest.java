@@ -287,6 +287,9 @@ public final class TextBoundsTest {
         Due.fault("when (((((( 1)))))) do double;", 2, 12);
         Due.fault("when (((((((1))))))) do double;", 2, 11);
         Due.fault("when ((((((", 2, 11);
+        for (String next : new String[] {"do", "and 1", "or 1", ")))))) do", "not", "(", ";"}) {
+            Due.fault("when ((((((" + next + " double;", 2, 11);
+        }
         Due.fault("when (((((()", 2, 11);
         Due.good("when (((((1))))) and (((((1))))) or (((((1))))) do double;");
         Due.fault("when (((((1))))) and ((((((1)))))) do double;", 2, 27);
@@ -300,11 +303,17 @@ public final class TextBoundsTest {
         Due.fault("when not not not not not not 1 do double;", 2, 29);
         Due.fault("when not not not not not not not 1 do double;", 2, 29);
         Due.fault("when not not not not not not", 2, 28);
+        for (String next : new String[] {"do", "and 1 do", "or 1 do", ")", "not", "(", ";"}) {
+            Due.fault("when not not not not not not " + next + " double;", 2, 29);
+        }
         Due.good("when not not not not not 1 and not not not not not 1 do double;");
         Due.fault("when 1 or not not not not not not 1 do double;", 2, 34);
     }
 
     private static void bothWithinSix() {
+        String open = "0 or 1 and (".repeat(5) + "0 or 1 and ";
+        Due.is("the most at once", Due.price("hurt hand 5; when " + open + "2 = 2))))) do double;"), 10);
+        Due.is("the most at once", Due.price("hurt hand 5; when " + open + "2 = 3))))) do double;"), 5);
         Due.is("five", Due.price("hurt hand 5; when not (not (not 0)) do double;"), 10);
         Due.fault("when not (not (not (1))) do double;", 2, 20);
         Due.fault("when (not (not (not 1))) do double;", 2, 20);
